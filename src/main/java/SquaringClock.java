@@ -61,42 +61,43 @@ public final class SquaringClock {
 
     public int begin(int t) throws IllegalStateException, IllegalArgumentException {
         needDiscriminant();
+        // The promises of begin, work and prove name a wrong argument before a wrong state.
+        needCount(t, MOST_SQUARINGS);
         if (running || booked >= MOST_ROUNDS) {
             throw new IllegalStateException();
         }
-        needCount(t, MOST_SQUARINGS);
         current.start(group, t, nextExponent());
         running = true;
         return current.exponent;
     }
 
     public int work(int n) throws IllegalStateException, IllegalArgumentException {
-        needRunning();
-        if (current.squaringsLeft == 0) {
+        needDiscriminant();
+        needCount(n, MOST_SQUARINGS);
+        if (!running || current.squaringsLeft == 0) {
             throw new IllegalStateException();
         }
-        needCount(n, MOST_SQUARINGS);
         current.makeSquarings(group, n);
         return current.squaringsLeft;
     }
 
     public int prove(int n) throws IllegalStateException, IllegalArgumentException {
-        needRunning();
-        if (current.squaringsLeft > 0 || current.stepsLeft == 0) {
+        needDiscriminant();
+        needCount(n, MOST_SQUARINGS);
+        if (!running || current.squaringsLeft > 0 || current.stepsLeft == 0) {
             throw new IllegalStateException();
         }
-        needCount(n, MOST_SQUARINGS);
         current.makeSteps(group, n);
         return current.stepsLeft;
     }
 
     public int publish() throws IllegalStateException {
-        needRunning();
+        needDiscriminant();
         // A round is begun only while the book has room; asking again keeps the index safe here.
-        if (current.squaringsLeft > 0 || current.stepsLeft > 0 || booked >= MOST_ROUNDS) {
+        if (!running || current.squaringsLeft > 0 || current.stepsLeft > 0 || booked >= MOST_ROUNDS) {
             throw new IllegalStateException();
         }
-        book[booked].copy(current);
+        book[booked].copyDone(current);
         booked++;
         running = false;
         return booked;
@@ -238,13 +239,6 @@ public final class SquaringClock {
 
     private void needDiscriminant() {
         if (group.d == 0) {
-            throw new IllegalStateException();
-        }
-    }
-
-    /** A round runs only when there is a discriminant, so this asks for both. */
-    private void needRunning() {
-        if (!running) {
             throw new IllegalStateException();
         }
     }
@@ -426,7 +420,7 @@ public final class SquaringClock {
     private static final class Group {
         long d;
         final Form unit = new Form();
-        private final Form generator = new Form();
+        final Form generator = new Form();
         private final Form base = new Form();
         private final Form left = new Form();
         private final Form right = new Form();
@@ -463,7 +457,7 @@ public final class SquaringClock {
             compose(left, right, into);
         }
 
-        /** The product of two reduced forms (a up to some 18257). */
+        /** The product of two reduced forms (a up to some 18257); into may be one of them. */
         void compose(Form one, Form other, Form into) {
             // b is odd in every form, as the discriminant is odd.
             long middle = (one.b + other.b) / 2;
@@ -481,10 +475,6 @@ public final class SquaringClock {
             into.settle();
         }
 
-        void square(Form form) {
-            compose(form, form, form);
-        }
-
         /** n is not below 0. */
         void power(Form of, int n, Form into) {
             base.copy(of);
@@ -494,12 +484,8 @@ public final class SquaringClock {
                 if ((rest & 1) == 1) {
                     compose(into, base, into);
                 }
-                square(base);
+                compose(base, base, base);
             }
-        }
-
-        void generatorPower(int n, Form into) {
-            power(generator, n, into);
         }
 
         boolean isGeneratorPower(Form form, int n) {
@@ -576,7 +562,7 @@ public final class SquaringClock {
             squaringsLeft = newSquarings;
             stepsLeft = newSquarings;
             rest = 1;
-            group.generatorPower(newExponent, x);
+            group.power(group.generator, newExponent, x);
             y.copy(x);
             proof.copy(group.unit);
         }
@@ -584,7 +570,7 @@ public final class SquaringClock {
         void makeSquarings(Group group, int most) {
             int count = Math.min(most, squaringsLeft);
             for (int i = 0; i < count; i++) {
-                group.square(y);
+                group.compose(y, y, y);
             }
             squaringsLeft -= count;
             if (squaringsLeft == 0) {
@@ -601,7 +587,7 @@ public final class SquaringClock {
         }
 
         private void makeStep(Group group) {
-            group.square(proof);
+            group.compose(proof, proof, proof);
             rest *= 2;
             if (rest >= prime) {
                 group.compose(proof, x, proof);
@@ -609,13 +595,11 @@ public final class SquaringClock {
             }
         }
 
-        void copy(Round other) {
+        /** The other one is done, so what was left of it needs no copy. */
+        void copyDone(Round other) {
             squarings = other.squarings;
             exponent = other.exponent;
             prime = other.prime;
-            squaringsLeft = other.squaringsLeft;
-            stepsLeft = other.stepsLeft;
-            rest = other.rest;
             x.copy(other.x);
             y.copy(other.y);
             proof.copy(other.proof);

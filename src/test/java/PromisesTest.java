@@ -97,7 +97,7 @@ public final class PromisesTest {
         fails("3 above", ARGUMENT, () -> clock.begin(501));
         due("3 exponent", clock.begin(3), 7584);
         fails("3 running", STATE, () -> clock.begin(3));
-        fails("3 running and wrong", STATE, () -> clock.begin(0));
+        fails("3 running and wrong", ARGUMENT, () -> clock.begin(0));
         due("3 T is not mixed into the exponent", again(clock, 500), 7584);
         due("3 x", form(clock, NONE, 0), "1 1 4");
         due("3 y is x at first", form(clock, NONE, 1), "1 1 4");
@@ -109,7 +109,7 @@ public final class PromisesTest {
             book(clock, 1);
         }
         fails("3 the book is full", STATE, () -> clock.begin(1));
-        fails("3 the book is full and wrong", STATE, () -> clock.begin(0));
+        fails("3 the book is full and wrong", ARGUMENT, () -> clock.begin(0));
         SquaringClock other = with(23);
         due("3 d is mixed into it", other.begin(7), 38084);
     }
@@ -117,7 +117,7 @@ public final class PromisesTest {
     private static void work() {
         SquaringClock clock = with(23);
         fails("4 not running", STATE, () -> clock.work(1));
-        fails("4 not running and wrong", STATE, () -> clock.work(0));
+        fails("4 not running and wrong", ARGUMENT, () -> clock.work(0));
         clock.begin(5);
         fails("4 none", ARGUMENT, () -> clock.work(0));
         fails("4 above", ARGUMENT, () -> clock.work(501));
@@ -130,17 +130,17 @@ public final class PromisesTest {
         due("4 more than are left", clock.work(500), 0);
         due("4 five times", form(clock, NONE, 1), "2 1 3");
         fails("4 none left", STATE, () -> clock.work(1));
-        fails("4 none left and wrong", STATE, () -> clock.work(501));
+        fails("4 none left and wrong", ARGUMENT, () -> clock.work(501));
     }
 
     private static void prove() {
         SquaringClock clock = with(23);
         fails("5 not running", STATE, () -> clock.prove(1));
-        fails("5 not running and wrong", STATE, () -> clock.prove(0));
+        fails("5 not running and wrong", ARGUMENT, () -> clock.prove(0));
         clock.begin(20);
         fails("5 squarings left", STATE, () -> clock.prove(1));
         clock.work(19);
-        fails("5 one squaring left and wrong", STATE, () -> clock.prove(501));
+        fails("5 one squaring left and wrong", ARGUMENT, () -> clock.prove(501));
         clock.work(1);
         fails("5 none", ARGUMENT, () -> clock.prove(0));
         fails("5 above", ARGUMENT, () -> clock.prove(501));
@@ -151,7 +151,7 @@ public final class PromisesTest {
         String[] powers = {"1 1 6", "2 -1 3", "2 1 3"};
         due("5 proof", form(clock, NONE, 2), powers[quotient % 3]);
         fails("5 none left", STATE, () -> clock.prove(1));
-        fails("5 none left and wrong", STATE, () -> clock.prove(0));
+        fails("5 none left and wrong", ARGUMENT, () -> clock.prove(0));
     }
 
     private static void publish() {

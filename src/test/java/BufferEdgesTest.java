@@ -33,6 +33,7 @@ public final class BufferEdgesTest {
         multiplyOf0To2();
         multiplyOfNone();
         multiplyIntoItsOwnPlace();
+        productsOfTheGreatestForms();
         raiseOf0To2();
         raiseWithNBelow0();
         raiseWithSmallN();
@@ -248,6 +249,34 @@ public final class BufferEdgesTest {
             clock.multiply(0, 1, 2);
             return Trial.kept(clock, 0) + ", " + Trial.kept(clock, 1) + ", " + Trial.kept(clock, 2);
         }, "2 1 5, 2 -3 6, 3 3 4");
+    }
+
+    /** The greatest numbers that put takes, for the greatest d: alike forms have the same product and power. */
+    private static void productsOfTheGreatestForms() {
+        int[][] forms = {{99999, 99699}, {99999, 93795}, {99999, -99699}, {100000, 18751}, {100000, -18751}, {1, 99999},
+            {1, -99999}, {2, 99999}, {18063, -17613}};
+        for (int[] one : forms) {
+            for (int[] other : forms) {
+                Trial.Deed recipe = Trial.with(999999999).then(clock -> {
+                    clock.put(0, one[0], one[1]);
+                    clock.put(1, other[0], other[1]);
+                });
+                Trial.Deed reduced = recipe.then(clock -> {
+                    clock.reduce(0, 0);
+                    clock.reduce(1, 1);
+                });
+                String words = one[0] + " " + one[1] + " by " + other[0] + " " + other[1];
+                TRIAL.expect(words, productAndPower(recipe), productAndPower(reduced));
+            }
+        }
+    }
+
+    private static String productAndPower(Trial.Deed recipe) {
+        SquaringClock clock = Trial.made(recipe);
+        clock.multiply(0, 1, 2);
+        String product = Trial.kept(clock, 2);
+        clock.raise(0, 3, 2);
+        return product + ", " + Trial.kept(clock, 2);
     }
 
     private static void raiseOf0To2() {

@@ -156,6 +156,7 @@ public final class TermsEdgesTest {
         TRIAL.answers("(1, 1, 4), (2, 1, 2)", Trial.with(15), SquaringClock::classes, 2);
         TRIAL.answers("(1, 1, 10), (2, 1, 5), (2, -1, 5), (3, 3, 4)", Trial.with(39), SquaringClock::classes, 4);
         TRIAL.answers("(1, 1, 14), (2, 1, 7), (2, -1, 7), (4, 3, 4)", Trial.with(55), SquaringClock::classes, 4);
+        TRIAL.answers("(7, 7, 8), and five with a below 5", Trial.with(175), SquaringClock::classes, 6);
     }
 
     private static void powerWith0() {

@@ -1,4 +1,3 @@
-import java.lang.management.ManagementFactory;
 import java.lang.reflect.Constructor;
 import java.lang.reflect.Field;
 import java.lang.reflect.Method;
@@ -6,7 +5,7 @@ import java.lang.reflect.Modifier;
 import java.util.Set;
 import java.util.TreeSet;
 
-/** The class has the document's face and nothing else that can be seen, and its calls need no room of their own. */
+/** The class has the document's face and nothing else that can be seen. */
 public final class FaceTest {
     private static final String[] FACE = {
         "public static final int NONE",
@@ -31,15 +30,34 @@ public final class FaceTest {
         "public int order(int) throws IllegalStateException,IllegalArgumentException",
         "public int classes() throws IllegalStateException,IllegalArgumentException",
     };
-    /** Bytes: no more than the JVM itself makes beside the calls. */
-    private static final long MOST_ROOM = 20000;
 
     public static void main(String[] args) {
-        boolean good = Modifier.isFinal(SquaringClock.class.getModifiers()) && hasFace() && hidesNames() && needsNoRoom();
+        boolean good = isPlainClass() && hasFace() && hidesNames() && hidesClasses();
         System.out.println(good ? "the face is as due" : "the face is not as due");
         if (!good) {
             System.exit(1);
         }
+    }
+
+    private static boolean isPlainClass() {
+        Class<?> face = SquaringClock.class;
+        boolean plain = face.getModifiers() == (Modifier.PUBLIC | Modifier.FINAL) && face.getSuperclass() == Object.class
+            && face.getInterfaces().length == 0 && SquaringClock.NONE == -1;
+        if (!plain) {
+            System.out.println("the class itself, or its constant, is not as due");
+        }
+        return plain;
+    }
+
+    private static boolean hidesClasses() {
+        for (Class<?> inside : SquaringClock.class.getDeclaredClasses()) {
+            int modifiers = inside.getModifiers();
+            if (Modifier.isPublic(modifiers) || Modifier.isProtected(modifiers) || !Modifier.isStatic(modifiers)) {
+                System.out.println("a class inside is seen, or not static: " + inside);
+                return false;
+            }
+        }
+        return true;
     }
 
     private static boolean hasFace() {
@@ -80,37 +98,5 @@ public final class FaceTest {
             }
         }
         return true;
-    }
-
-    private static boolean needsNoRoom() {
-        SquaringClock clock = new SquaringClock();
-        com.sun.management.ThreadMXBean threads =
-            (com.sun.management.ThreadMXBean) ManagementFactory.getThreadMXBean();
-        threads.getCurrentThreadAllocatedBytes();
-        long before = threads.getCurrentThreadAllocatedBytes();
-        int answers = dearRun(clock);
-        long room = threads.getCurrentThreadAllocatedBytes() - before;
-        if (room > MOST_ROOM || answers == 0) {
-            System.out.println("a run of dear calls took " + room + " bytes");
-            return false;
-        }
-        return true;
-    }
-
-    private static int dearRun(SquaringClock clock) {
-        int answers = 0;
-        clock.discriminant(49999);
-        for (int i = 0; i < 16; i++) {
-            answers += clock.begin(500) + clock.work(500) + clock.prove(500) + clock.publish();
-            for (int which = 0; which < 3; which++) {
-                clock.put(which, clock.form(i, which, 0), clock.form(i, which, 1));
-            }
-            answers += clock.test(i) + clock.order(1000) + clock.classes();
-            answers += clock.verify(i) ? 1 : 0;
-            clock.multiply(0, 1, 2);
-            clock.raise(2, Integer.MAX_VALUE, 2);
-            clock.reduce(2, 2);
-        }
-        return answers;
     }
 }

@@ -6,11 +6,13 @@ import java.util.Random;
 
 /**
  * Long runs of calls, right and wrong ones, on a clock and on a model that follows the document's definitions
- * word by word; after each call all that can be seen of both is compared.
+ * word by word; every now and then all that can be seen of both is compared.
  */
 public final class ModelTest {
     private static final int RUNS = 400;
-    private static final int CALLS = 300;
+    /** The look at all that can be seen takes up to 226 calls more, and a clock is good for 512. */
+    private static final int CALLS = 286;
+    private static final int CALLS_TO_A_LOOK = 10;
     private static final String STATE = "IllegalStateException";
     private static final String ARGUMENT = "IllegalArgumentException";
     private static final String INDEX = "IndexOutOfBoundsException";
@@ -41,6 +43,8 @@ public final class ModelTest {
         SquaringClock clock = new SquaringClock();
         Model model = new Model();
         StringBuilder log = new StringBuilder();
+        List<String> names = new ArrayList<>();
+        List<long[]> ins = new ArrayList<>();
         boolean dear = run % 20 == 0;
         for (int i = 0; i < CALLS; i++) {
             String name = i == 5 ? "discriminant" : pick(random);
@@ -59,8 +63,22 @@ public final class ModelTest {
             if (name.equals("test") && want.length() == 1) {
                 answers[want.charAt(0) - '0']++;
             }
-            compareAll(clock, model, log);
+            names.add(name);
+            ins.add(in);
+            if (random.nextInt(CALLS_TO_A_LOOK) == 0) {
+                compareAll(twin(names, ins), model, log);
+            }
         }
+        compareAll(clock, model, log);
+    }
+
+    /** A clock with the same calls behind it, so that a look at it does not wear out the first one. */
+    private static SquaringClock twin(List<String> names, List<long[]> ins) {
+        SquaringClock clock = new SquaringClock();
+        for (int i = 0; i < names.size(); i++) {
+            call(clock, names.get(i), ins.get(i));
+        }
+        return clock;
     }
 
     private static void compareAll(SquaringClock clock, Model model, StringBuilder log) {
@@ -175,26 +193,31 @@ public final class ModelTest {
     /** All pairs of reduced forms for many small discriminants, the ones with square factors among them. */
     private static void checkEveryProduct() {
         for (int d = 7; d < 2500; d += d < 700 ? 8 : 56) {
-            SquaringClock clock = new SquaringClock();
-            clock.discriminant(d);
             Model model = new Model();
             model.call("discriminant", new long[] {d});
             List<long[]> forms = model.allReduced();
-            if (clock.classes() != forms.size()) {
-                fail("classes for " + d + " answered " + clock.classes() + ", due is " + forms.size());
+            SquaringClock counting = new SquaringClock();
+            counting.discriminant(d);
+            if (counting.classes() != forms.size()) {
+                fail("classes for " + d + " are not " + forms.size());
             }
             for (long[] one : forms) {
                 for (long[] other : forms) {
-                    clock.put(0, (int) one[0], (int) one[1]);
-                    clock.put(1, (int) other[0], (int) other[1]);
-                    clock.multiply(0, 1, 2);
-                    long[] want = model.product(one, other);
-                    for (int part = 0; part < 3; part++) {
-                        if (clock.buffer(2, part) != want[part]) {
-                            fail("product for " + d + " of " + Arrays.toString(one) + " and " + Arrays.toString(other));
-                        }
-                    }
+                    checkProduct(d, one, other, model.product(one, other));
                 }
+            }
+        }
+    }
+
+    private static void checkProduct(int d, long[] one, long[] other, long[] want) {
+        SquaringClock clock = new SquaringClock();
+        clock.discriminant(d);
+        clock.put(0, (int) one[0], (int) one[1]);
+        clock.put(1, (int) other[0], (int) other[1]);
+        clock.multiply(0, 1, 2);
+        for (int part = 0; part < 3; part++) {
+            if (clock.buffer(2, part) != want[part]) {
+                fail("product for " + d + " of " + Arrays.toString(one) + " and " + Arrays.toString(other));
             }
         }
     }
